@@ -692,20 +692,16 @@ public final class AskedTable {
             if (c >= '0' && c <= '9' || c == '-') {
                 return DIGITS;
             }
-            switch (c) {
-                case '\'':
-                    return QUOTED;
-                case '(':
-                    return OPEN;
-                case ')':
-                    return CLOSE;
-                case '<':
-                case '=':
-                case '>':
-                    return SIGN;
-                default:
-                    return WRONG;
+            if (c == '\'') {
+                return QUOTED;
             }
+            if (c == '(') {
+                return OPEN;
+            }
+            if (c == ')') {
+                return CLOSE;
+            }
+            return c == '<' || c == '=' || c == '>' ? SIGN : WRONG;
         }
 
         private void readQuoted() {

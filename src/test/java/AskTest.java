@@ -1,0 +1,207 @@
+/** Promises 9, 11 and 12: ask, lines and line, with the conditions and the order of rows. */
+public final class AskTest {
+    private static final String TABLE = "n,m,d,t\n"
+            + "1,5000000000,2020-02-29,x\n"
+            + ",1,2019-12-31,\"\"\n"
+            + "-3,,,xy\n"
+            + "1,-3,2020-02-29,\n"
+            + "2,2,2021-01-01,\"b,c\"\n";
+
+    public static void main(String[] args) {
+        comparisons();
+        texts();
+        unknown();
+        notAndOr();
+        order();
+        tokens();
+        names();
+        wrongCalls();
+        sumsBeyond();
+        whatAnAskLeaves();
+        Run.finish();
+    }
+
+    private static void due(Run run, String question, String want) {
+        String count = run.ask(question);
+        Run.due("rows of [" + question + "]", count.matches("\\d+") ? run.linesTold() : count, want);
+        if (count.matches("\\d+")) {
+            Run.due("lines() of [" + question + "]", Integer.toString(run.x.lines()), count);
+            Run.due("fault() of [" + question + "]", run.x.fault(), AskedTable.NONE);
+        }
+    }
+
+    private static void comparisons() {
+        Run run = Run.of(TABLE);
+        due(run, "rows", "0 1 2 3 4");
+        due(run, "rows where n=1", "0 3");
+        due(run, "rows where n<>1", "2 4");
+        due(run, "rows where n<1", "2");
+        due(run, "rows where n<=1", "0 2 3");
+        due(run, "rows where n>1", "4");
+        due(run, "rows where n>=1", "0 3 4");
+        due(run, "rows where n=-3", "2");
+        due(run, "rows where n<9223372036854775807", "0 2 3 4");
+        due(run, "rows where n>-9223372036854775808", "0 2 3 4");
+        due(run, "rows where m=5000000000", "0");
+        due(run, "rows where n<m", "0");
+        due(run, "rows where m<=n", "3 4");
+        due(run, "rows where n=m", "4");
+        due(run, "rows where n=n", "0 2 3 4");
+        due(run, "rows where n<>n", "");
+        due(run, "rows where d=2020-02-29", "0 3");
+        due(run, "rows where d<2020-02-29", "1");
+        due(run, "rows where d>=2020-02-29", "0 3 4");
+        due(run, "rows where n is null", "1");
+        due(run, "rows where t is null", "3");
+        due(run, "rows where not t is null", "0 1 2 4");
+    }
+
+    private static void texts() {
+        Run run = Run.of(TABLE);
+        due(run, "rows where t='x'", "0");
+        due(run, "rows where t=''", "1");
+        due(run, "rows where t<>''", "0 2 4");
+        due(run, "rows where t>'x'", "2");
+        due(run, "rows where t>='x'", "0 2");
+        due(run, "rows where t<'x'", "1 4");
+        due(run, "rows where t<'xyz'", "0 1 2 4");
+        due(run, "rows where t='b,c'", "4");
+        due(run, "rows where t=t", "0 1 2 4");
+        Run other = Run.of("a,b\n\"1\",1\n10,\"9\"\n\"a\"\"\",A\n~,~\n");
+        due(other, "rows where a='1'", "0");
+        due(other, "rows where a=b", "0 3");
+        due(other, "rows where a<b", "1");
+        due(other, "rows where a='a\"'", "2");
+        due(other, "rows order a", "0 1 2 3");
+        due(other, "rows order b", "0 1 2 3");
+    }
+
+    private static void unknown() {
+        Run run = Run.of(TABLE);
+        due(run, "rows where not n=1", "2 4");
+        due(run, "rows where not not n=1", "0 3");
+        due(run, "rows where n=1 or not n=1", "0 2 3 4");
+        due(run, "rows where n=1 or n is null", "0 1 3");
+        due(run, "rows where not(n=1 and m=1)", "0 2 3 4");
+        due(run, "rows where not(n=1 or m=1)", "4");
+        due(run, "rows where not(n=1 and t is null)", "0 1 2 4");
+        due(run, "rows where not(n<>1 or n is null)", "0 3");
+        due(run, "rows where not m<0", "0 1 4");
+        due(run, "rows where not n<m", "3 4");
+    }
+
+    private static void notAndOr() {
+        Run run = Run.of(TABLE);
+        due(run, "rows where n=1 and m<0 or n=2", "3 4");
+        due(run, "rows where n=2 or n=1 and m<0", "3 4");
+        due(run, "rows where (n=2 or n=1) and m<0", "3");
+        due(run, "rows where n=1 and (m<0 or n=2)", "3");
+        due(run, "rows where not n=1 and m=2", "4");
+        due(run, "rows where not (n=1 and m<0) and n=1", "0");
+        due(run, "rows where n=1 or n=2 or n=-3", "0 2 3 4");
+        due(run, "rows where n>0 and n<3 and m>0 and m<3", "4");
+        due(run, "rows where ((((((((n=1))))))))", "0 3");
+        due(run, "rows where not not not not not not not not n=1", "0 3");
+        due(run, "rows where (not(not(not(not(n=1)))))", "IllegalArgumentException");
+        due(run, "rows where (not(not(not not(n=1))))", "0 3");
+        due(run, "rows where ((n=1))and((n=1))and not(not(n=1))", "0 3");
+    }
+
+    private static void order() {
+        Run run = Run.of(TABLE);
+        due(run, "rows order n", "1 2 0 3 4");
+        due(run, "rows order n desc", "4 0 3 2 1");
+        due(run, "rows order m", "2 3 1 4 0");
+        due(run, "rows order m desc", "0 4 1 3 2");
+        due(run, "rows order d", "2 1 0 3 4");
+        due(run, "rows order d desc", "4 0 3 1 2");
+        due(run, "rows order t", "3 1 4 0 2");
+        due(run, "rows order t desc", "2 0 4 1 3");
+        due(run, "rows where n>0 order m desc", "0 4 3");
+        due(run, "rows where n is null and n=1 order n", "");
+        due(Run.of("a\n\n\n\n"), "rows order a desc", "0 1 2");
+        due(Run.of("a" + "\n1\n\n0".repeat(5) + "\n"), "rows order a desc", "0 3 6 9 12 2 5 8 11 14 1 4 7 10 13");
+        due(Run.of("a\nb\n\"\n\"\n \n"), "rows order a", "1 2 0");
+    }
+
+    private static void tokens() {
+        Run run = Run.of(TABLE);
+        due(run, "   rows   where   n  =  1   ", "0 3");
+        due(run, "rows where(n=1)and(m<0)order n desc", "3");
+        due(run, "rows where n=1or n=2order n", "0 3 4");
+        due(run, "rows where t='x'or t='xy'order t desc", "2 0");
+        due(run, "rows where n<-2", "2");
+        due(run, "rows where n<>-3and n>=-3", "0 3 4");
+        due(run, "rowswhere n=1", "IllegalArgumentException");
+        due(run, "rows where n< =1", "IllegalArgumentException");
+        due(run, "rows where n<>-3 and t='order n desc'", "");
+        due(run, "  count  ", "5");
+    }
+
+    private static void names() {
+        Run run = Run.of("rows,count,sum,least,most,sixlet\n1,2,3,4,5,6\n6,5,4,3,2,1\n");
+        due(run, "rows where rows=1", "0");
+        due(run, "rows where count>sum and least<=least order most", "1");
+        due(run, "rows order rows desc", "1 0");
+        due(run, "rows where sixlet=6", "0");
+        due(run, "sum(sum)by count where rows<>most", "1 1");
+        due(run, "count by sixlet", "1 1");
+    }
+
+    private static void wrongCalls() {
+        Run run = Run.of(TABLE);
+        for (String question : new String[] {"", " ", "row", "rows rows", "rows where", "rows where n",
+        "rows where q=1",
+            "rows where n=q", "rows where n='1'", "rows where t=1", "rows where d=1", "rows where n=2020-01-01",
+            "rows where n=d", "rows where d=t", "rows where 1=n", "rows where n is not null", "rows where n=null",
+            "rows order", "rows order q", "rows desc", "rows by n", "rows order n where n=1",
+            "rows order n desc desc",
+            "count order n", "count where n=1 by n", "count by", "count(n)", "sum n", "sum(t)", "sum(d)", "sum(q)",
+            "least()", "most(n", "ROWS", "rows;", "rows where n=9223372036854775808", "rows where n==1",
+            "rows where d=2019-02-29", "rows where n=1-1", "rows where t='x", "rows where t=\"x\"",
+            "rows where (n=1"}) {
+            run.ask("rows");
+            due(run, question, "IllegalArgumentException");
+            Run.due("lines() of [" + question + "]", run.x.lines(), AskedTable.NONE);
+            Run.due("line(0) of [" + question + "]", Run.told(() -> run.x.line(0)), "IllegalStateException");
+            Run.due("the answer of [" + question + "]", run.written(true), "IllegalStateException");
+        }
+        run.ask("rows where n=1");
+        for (int k : new int[] {-1, 2, 16, Integer.MIN_VALUE, Integer.MAX_VALUE}) {
+            Run.due("line " + k, Run.told(() -> run.x.line(k)), "IndexOutOfBoundsException");
+        }
+        run.ask("rows where n=7");
+        Run.due("line 0 of no rows", Run.told(() -> run.x.line(0)), "IndexOutOfBoundsException");
+        Run empty = new Run();
+        Run.due("ask without a table", empty.ask("sum("), "IllegalStateException");
+    }
+
+    private static void sumsBeyond() {
+        String beyond = "UnsupportedOperationException";
+        Run run = Run.of("a,g\n9223372036854775807,1\n1,2\n-5,1\n-9223372036854775808,2\n,2\n");
+        due(run, "sum(a)", beyond);
+        Run.due("fault of a sum beyond", run.x.fault(), AskedTable.NONE);
+        Run.due("lines of a sum beyond", run.x.lines(), AskedTable.NONE);
+        due(run, "sum(a) where a>1 or a<-5", "2");
+        due(run, "sum(a) by g", "2 3");
+        due(run, "sum(a) where a<0", beyond);
+        due(run, "sum(a) where a<-5 or a is null", "2");
+        due(run, "sum(q)", "IllegalArgumentException");
+        due(run, "sum(a) by g where q=1", "IllegalArgumentException");
+        due(Run.of("a\n9223372036854775807\n1\n-1\n"), "sum(a)", beyond);
+        due(Run.of("a\n9223372036854775807\n-1\n1\n"), "sum(a)", "3");
+        due(Run.of("a,g\n9223372036854775807,2\n5,1\n1,2\n"), "sum(a) by g", beyond);
+    }
+
+    private static void whatAnAskLeaves() {
+        Run run = Run.of("a\n1\n2\n");
+        run.ask("rows where a=2");
+        run.put(true, "count");
+        run.put(false, "b\n1");
+        Run.due("the answer when inputs change", run.x.lines() + " " + run.x.line(0), "1 1");
+        Run.due("the table's own", run.written(true), "a\n2\n");
+        run.ask("rows ?");
+        Run.due("the table after no question", run.written(false), "a\n1\n2\n");
+        Run.due("OUT after no question", run.out(6), "a\n1\n2\n");
+    }
+}

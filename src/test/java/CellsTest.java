@@ -1,0 +1,124 @@
+/** Promises 5 to 8: columns, type, isMissing and value. */
+public final class CellsTest {
+    private static final String NO_CELL = "IndexOutOfBoundsException";
+    private static final String OF_TEXT = "IllegalStateException";
+    private static final String MISSING = "NoSuchElementException";
+
+    public static void main(String[] args) {
+        columnsAreCounted();
+        typesOfSingleCells();
+        typesOfMixedColumns();
+        cellsThatAreThere();
+        values();
+        whichExceptionIsFirst();
+        Run.finish();
+    }
+
+    private static void columnsAreCounted() {
+        Run.due("columns", Run.of("a").x.columns(), 1);
+        Run.due("columns", Run.of("a,b,c,d,e,f\n1,2,3,4,5,6").x.columns(), 6);
+        Run run = Run.of("a,b");
+        run.load("x,y,z\n1,2");
+        Run.due("columns after a load that throws", run.x.columns(), 2);
+    }
+
+    /** A second column keeps the one that is looked at from being the record's only field. */
+    private static int typeOf(String... cells) {
+        StringBuilder text = new StringBuilder("z,a\n");
+        for (String cell : cells) {
+            text.append("x,").append(cell).append('\n');
+        }
+        return Run.of(text.toString()).x.type(1);
+    }
+
+    private static void dueType(int want, String... cells) {
+        Run.due("type of " + String.join(" ", cells), typeOf(cells), want);
+    }
+
+    private static void typesOfSingleCells() {
+        for (String cell : new String[] {"0", "7", "-7", "10", "2147483647", "-2147483648"}) {
+            dueType(0, cell);
+        }
+        for (String cell : new String[] {"2147483648", "-2147483649", "9223372036854775807",
+            "-9223372036854775808", "9223372036854775799", "1000000000000000000"}) {
+            dueType(1, cell);
+        }
+        for (String cell : new String[] {"0001-01-01", "9999-12-31", "2020-02-29", "2000-02-29", "2019-02-28",
+            "2019-04-30", "2019-01-31", "2019-03-31", "2019-05-31", "2019-07-31", "2019-08-31", "2019-10-31"}) {
+            dueType(2, cell);
+        }
+        for (String cell : new String[] {"x", "00", "01", "-0", "-01", "-", "--1", "+1", "1-", " 1", "1 ", "1.0", "1e3",
+            "9223372036854775808", "-9223372036854775809", "9999999999999999999", "10000000000000000000",
+            "-10000000000000000000", "99999999999999999999999", "18446744073709551616",
+            "0000-01-01", "2019-02-29", "1900-02-29", "2100-02-29", "2020-02-30", "2019-04-31", "2019-06-31",
+            "2019-09-31", "2019-11-31", "2019-12-32", "2019-00-10", "2019-13-10", "2019-10-00", "219-01-01",
+            "2019-1-01", "2019-01-1", "2019/01/01", "02019-01-01", "2019-01-011", "-019-01-01", "2019-01--1",
+            "20190-1-01", "2019-01-01 ", "2019-0a-01", "2019-01:01", "\"\"", "\"1\"", "\"2020-02-29\"", "\"x\""}) {
+            dueType(3, cell);
+        }
+    }
+
+    private static void typesOfMixedColumns() {
+        dueType(0);
+        dueType(0, "", "");
+        dueType(0, "", "1");
+        dueType(1, "1", "2147483648", "");
+        dueType(1, "-9223372036854775808", "0");
+        dueType(2, "", "2020-01-01", "");
+        dueType(3, "1", "2020-01-01");
+        dueType(3, "2147483648", "2020-01-01");
+        dueType(3, "1", "x");
+        dueType(3, "2020-01-01", "x");
+        dueType(3, "1", "\"2\"");
+        dueType(3, "1", "", "\"\"");
+        Run run = Run.of("a,b,c,d\n1,x,2020-01-01,\n2147483648,,,\n");
+        Run.due("types", "" + run.x.type(0) + run.x.type(1) + run.x.type(2) + run.x.type(3), "1320");
+        for (int column : new int[] {-1, 4, 6, Integer.MIN_VALUE, Integer.MAX_VALUE}) {
+            Run.due("type of column " + column, Run.told(() -> run.x.type(column)), NO_CELL);
+        }
+    }
+
+    private static String missing(Run run, int row, int column) {
+        return Run.told(() -> run.x.isMissing(row, column) ? 1 : 0);
+    }
+
+    private static void cellsThatAreThere() {
+        Run run = Run.of("a,b\n,\"\"\n1,\n\" \", ");
+        Run.due("a plain one without characters", missing(run, 0, 0), "1");
+        Run.due("a quoted one without characters", missing(run, 0, 1), "0");
+        Run.due("a number", missing(run, 1, 0), "0");
+        Run.due("the record's end", missing(run, 1, 1), "1");
+        Run.due("a quoted space", missing(run, 2, 0), "0");
+        Run.due("a plain space", missing(run, 2, 1), "0");
+        int[][] outside = {{-1, 0}, {0, -1}, {3, 0}, {0, 2}, {-1, -1}, {3, 2}, {-1, 2},
+            {Integer.MAX_VALUE, 0}, {0, Integer.MAX_VALUE}, {Integer.MIN_VALUE, 1}, {1, Integer.MIN_VALUE}};
+        for (int[] cell : outside) {
+            String place = "cell " + cell[0] + ", " + cell[1];
+            Run.due("isMissing of " + place, missing(run, cell[0], cell[1]), NO_CELL);
+            Run.due("value of " + place, Run.told(() -> run.x.value(cell[0], cell[1])), NO_CELL);
+        }
+        Run.due("a cell of a table without rows", missing(Run.of("a"), 0, 0), NO_CELL);
+    }
+
+    private static void values() {
+        Run run = Run.of("a,b,c\n0,9223372036854775807,2020-02-29\n-2147483648,-9223372036854775808,0001-01-01\n"
+                + "2147483647,-1,9999-12-31\n");
+        String told = "";
+        for (int row = 0; row < 3; row++) {
+            for (int column = 0; column < 3; column++) {
+                told += run.x.value(row, column) + " ";
+            }
+        }
+        Run.due("values", told, "0 9223372036854775807 20200229 -2147483648 -9223372036854775808 10101 "
+                + "2147483647 -1 99991231 ");
+    }
+
+    private static void whichExceptionIsFirst() {
+        Run run = Run.of("a,b\n,\nx,1\n");
+        Run.due("a missing one of type 3", Run.told(() -> run.x.value(0, 0)), OF_TEXT);
+        Run.due("a text", Run.told(() -> run.x.value(1, 0)), OF_TEXT);
+        Run.due("a missing number", Run.told(() -> run.x.value(0, 1)), MISSING);
+        Run.due("a number", Run.told(() -> run.x.value(1, 1)), "1");
+        Run.due("no row of type 3", Run.told(() -> run.x.value(2, 0)), NO_CELL);
+    }
+}

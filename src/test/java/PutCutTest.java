@@ -1,0 +1,110 @@
+/** Promises 2 and 3: put and cut. */
+public final class PutCutTest {
+    public static void main(String[] args) {
+        theLowestByteComesFirst();
+        theNumberOfCharacters();
+        whichCharactersThereAre();
+        howManyThereAre(false, 240);
+        howManyThereAre(true, 96);
+        cutKeepsTheFirst();
+        textAndQuestionAreTwo();
+        charactersStayWhateverReadsThem();
+        Run.finish();
+    }
+
+    private static void theLowestByteComesFirst() {
+        Run run = new Run();
+        Run.due("put", run.x.put(false, 'a' | ',' << 8 | 'b' << 16, 3), true);
+        Run.due("load", Run.told(run.x::load), "0");
+        Run.due("written", run.written(false), "a,b\n");
+    }
+
+    private static void theNumberOfCharacters() {
+        Run run = new Run();
+        long w = Run.word("abcdefgh");
+        for (int n : new int[] {0, -1, 9, 16, Integer.MIN_VALUE, Integer.MAX_VALUE}) {
+            Run.due("put of " + n, run.x.put(false, w, n), false);
+            Run.due("put of " + n, run.x.put(true, w, n), false);
+        }
+        Run.due("nothing changed", run.x.cut(false, 1) || run.x.cut(true, 1), false);
+        for (int n = 1; n <= 8; n++) {
+            Run.due("put of " + n, run.x.put(false, w, n), true);
+            Run.due("its length", run.x.cut(false, n) && !run.x.cut(false, n + 1), true);
+            run.x.cut(false, 0);
+        }
+    }
+
+    private static void whichCharactersThereAre() {
+        for (int c = 0; c < 256; c++) {
+            boolean printed = c >= 32 && c <= 126;
+            Run run = new Run();
+            Run.due("put of " + c + " into the text", run.x.put(false, c, 1), printed || c == 10 || c == 13);
+            Run.due("put of " + c + " into the question", run.x.put(true, c, 1), printed);
+        }
+        Run run = new Run();
+        Run.due("bytes above n", run.x.put(true, 'a' | -256L, 1), true);
+        Run.due("a wrong one at the end", run.x.put(true, Run.word("abcdefg\u007f"), 8), false);
+        Run.due("a byte below zero", run.x.put(false, -1L << 56 | Run.word("abcdefg"), 8), false);
+        Run.due("nothing changed", run.x.cut(true, 2) || run.x.cut(false, 1), false);
+    }
+
+    private static void howManyThereAre(boolean question, int limit) {
+        Run run = new Run();
+        for (int i = 0; i < limit; i += 8) {
+            Run.due("put up to " + (i + 8), run.x.put(question, Run.word("aaaaaaaa"), 8), true);
+        }
+        Run.due("one more", run.x.put(question, 'a', 1), false);
+        Run.due("cut", run.x.cut(question, limit - 3), true);
+        Run.due("four for three", run.x.put(question, Run.word("aaaa"), 4), false);
+        Run.due("three for three", run.x.put(question, Run.word("aaa"), 3), true);
+        Run.due("all there", run.x.cut(question, limit), true);
+        Run.due("no more there", run.x.cut(question, limit + 1), false);
+    }
+
+    private static void cutKeepsTheFirst() {
+        Run run = new Run();
+        run.put(false, "abc,d\n1,2");
+        for (int n : new int[] {-1, 10, Integer.MIN_VALUE, Integer.MAX_VALUE}) {
+            Run.due("cut to " + n, run.x.cut(false, n), false);
+        }
+        Run.due("nothing changed", Run.told(run.x::load), "1");
+        Run.due("cut to all", run.x.cut(false, 9), true);
+        Run.due("cut to the header", run.x.cut(false, 5), true);
+        Run.due("load", Run.told(run.x::load), "0");
+        Run.due("cut to two", run.x.cut(false, 2), true);
+        run.x.put(false, 'z', 1);
+        run.x.load();
+        Run.due("written", run.written(false), "abz\n");
+        Run.due("cut to none", run.x.cut(false, 0), true);
+        Run.due("nothing is left", Run.told(run.x::load), "NoSuchElementException");
+    }
+
+    private static void textAndQuestionAreTwo() {
+        Run run = new Run();
+        run.put(false, "a\n5");
+        run.put(true, "rows");
+        Run.due("cut of the question", run.x.cut(true, 0), true);
+        Run.due("load", Run.told(run.x::load), "1");
+        run.put(true, "rows");
+        Run.due("cut of the text", run.x.cut(false, 0), true);
+        Run.due("ask", Run.told(run.x::ask), "1");
+    }
+
+    private static void charactersStayWhateverReadsThem() {
+        Run run = new Run();
+        run.put(false, "a\n1\n");
+        run.x.load();
+        run.x.put(false, Run.word("2\n"), 2);
+        Run.due("the table before the next load", run.x.columns() + " " + run.written(false), "1 a\n1\n");
+        Run.due("load of what stayed and came", Run.told(run.x::load), "2");
+        run.put(true, "rows ");
+        run.x.ask();
+        run.x.put(true, Run.word("where a"), 7);
+        run.x.put(true, Run.word("=2"), 2);
+        Run.due("ask of what stayed and came", Run.told(run.x::ask), "1");
+        run.put(true, "rows ?");
+        Run.due("a question that is none", Run.told(run.x::ask), "IllegalArgumentException");
+        run.x.cut(true, 5);
+        Run.due("ask of what is left", Run.told(run.x::ask), "2");
+    }
+}
