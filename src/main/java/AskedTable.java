@@ -217,10 +217,6 @@ public final class AskedTable {
 
     /** Looks at pieces of rows of characters, each from a place up to another that is not in it. */
     private static final class Pieces {
-        static boolean isLetter(char c) {
-            return c >= 'a' && c <= 'z';
-        }
-
         static boolean isWord(char[] chars, int from, int to, String word) {
             if (to - from != word.length()) {
                 return false;
@@ -336,7 +332,7 @@ public final class AskedTable {
             even = true;
             fields = 0;
             at = 0;
-            // A record takes one character at least: what is not there can't be the last record.
+            // Each record takes one character at least, as an empty one at the text's end is none.
             for (int turn = 0; turn < TEXT_LIMIT && at < text.length; turn++) {
                 splitRecord();
             }
@@ -441,7 +437,7 @@ public final class AskedTable {
                 return false;
             }
             for (int i = start; i < end; i++) {
-                if (!Pieces.isLetter(text.chars[i])) {
+                if (text.chars[i] < 'a' || text.chars[i] > 'z') {
                     return false;
                 }
             }

@@ -12,6 +12,7 @@ public final class AskTest {
         texts();
         unknown();
         notAndOr();
+        sixteenRows();
         order();
         tokens();
         names();
@@ -74,6 +75,7 @@ public final class AskTest {
         due(other, "rows where a='a\"'", "2");
         due(other, "rows order a", "0 1 2 3");
         due(other, "rows order b", "0 1 2 3");
+        due(Run.of("z,a\nx,x\nz,z\n"), "rows where z<'xy' and a<'xy'", "0");
     }
 
     private static void unknown() {
@@ -105,6 +107,25 @@ public final class AskTest {
         due(run, "rows where (not(not(not(not(n=1)))))", "IllegalArgumentException");
         due(run, "rows where (not(not(not not(n=1))))", "0 3");
         due(run, "rows where ((n=1))and((n=1))and not(not(n=1))", "0 3");
+    }
+
+    private static void sixteenRows() {
+        String numbers = "0 1 2 3 4 5 6 7 8 9 10 11 12 13 14 15";
+        for (String text : new String[] {"a" + "\n5".repeat(16), "a,b,c,d,e,f" + "\n5,,5,,5,5".repeat(16)}) {
+            Run run = Run.of(text);
+            due(run, "rows", numbers);
+            due(run, "rows where a is null", "");
+            due(run, "rows where not a is null", numbers);
+            due(run, "rows where a=5", numbers);
+            due(run, "rows where a<>5", "");
+            due(run, "rows where not a<>5 and a=a", numbers);
+            due(run, "rows where a<a or not a=a", "");
+            due(run, "count by a", "16");
+        }
+        due(Run.of("a" + "\n1".repeat(15) + "\n2"), "rows where a=2", "15");
+        due(Run.of("a" + "\n1".repeat(15) + "\n2"), "rows where not a=1", "15");
+        due(Run.of("a\n2" + "\n1".repeat(15)), "rows where not a=1", "0");
+        due(Run.of("a\n2" + "\n1".repeat(14) + "\n"), "rows where a=a and not a>1", "1 2 3 4 5 6 7 8 9 10 11 12 13 14");
     }
 
     private static void order() {

@@ -1,3 +1,5 @@
+import java.time.YearMonth;
+
 /** Promises 5 to 8: columns, type, isMissing and value. */
 public final class CellsTest {
     private static final String NO_CELL = "IndexOutOfBoundsException";
@@ -7,6 +9,7 @@ public final class CellsTest {
     public static void main(String[] args) {
         columnsAreCounted();
         typesOfSingleCells();
+        typesOfDates();
         typesOfMixedColumns();
         cellsThatAreThere();
         values();
@@ -53,8 +56,21 @@ public final class CellsTest {
             "0000-01-01", "2019-02-29", "1900-02-29", "2100-02-29", "2020-02-30", "2019-04-31", "2019-06-31",
             "2019-09-31", "2019-11-31", "2019-12-32", "2019-00-10", "2019-13-10", "2019-10-00", "219-01-01",
             "2019-1-01", "2019-01-1", "2019/01/01", "02019-01-01", "2019-01-011", "-019-01-01", "2019-01--1",
-            "20190-1-01", "2019-01-01 ", "2019-0a-01", "2019-01:01", "\"\"", "\"1\"", "\"2020-02-29\"", "\"x\""}) {
+            "20190-1-01", "2019-01-01 ", "2019-0a-01", "20:9-01-01", "2/19-01-01", "2019-0:-01", "2019-01-0:",
+            "2019-1/-01", "/019-01-01", "2019-01:01", "\"\"", "\"1\"", "\"2020-02-29\"", "\"x\""}) {
             dueType(3, cell);
+        }
+    }
+
+    private static void typesOfDates() {
+        for (int year : new int[] {0, 1, 4, 100, 400, 1900, 2000, 2004, 2005, 2019, 2020, 2100, 9996, 9999}) {
+            for (int month = 0; month <= 13; month++) {
+                boolean is = year > 0 && month >= 1 && month <= 12;
+                int days = is ? YearMonth.of(year, month).lengthOfMonth() : 0;
+                for (int day = 0; day <= 32; day++) {
+                    dueType(day >= 1 && day <= days ? 2 : 3, String.format("%04d-%02d-%02d", year, month, day));
+                }
+            }
         }
     }
 

@@ -6,6 +6,7 @@ public final class FaultTest {
         theFirstWrongToken();
         tokensThatFitNowhere();
         moreIsWanted();
+        fullQuestions();
         whatCannotBeComparedOrSummed();
         tooDeep();
         whenThereIsNone();
@@ -32,8 +33,7 @@ public final class FaultTest {
             "rows where n ^1", "rows where n ^null", "rows where n ^(", "rows where n is ^not null",
             "rows where n is ^n", "rows where n = ^= 1", "rows where n=^null", "rows where n=^not n=1",
             "rows where n=^(1)", "rows where n=^order n", "rows where n=1 ^2", "rows where n=1 ^n",
-            "rows where n=1^)",
-            "rows where n=1 ^where n=1", "rows where n=1 and ^or n=1", "rows where n=1 and ^",
+            "rows where n=1^)", "rows where n=1 ^where n=1", "rows where n=1 and ^or n=1", "rows where n=1 and ^",
             "rows where (n=1 ^order n",
             "rows where not ^and", "rows where not ^null", "rows where n=1 ^by n", "rows where n=1 ^desc",
             "rows order ^order", "rows order ^q", "rows order n ^m", "rows order n ^where n=1",
@@ -51,14 +51,13 @@ public final class FaultTest {
     private static void tokensThatFitNowhere() {
         for (String marked : new String[] {
             "^?", "^'rows'", "^-", "rows ^'where", "rows ^;", "rows where ^N=1", "rows where n ^!= 1",
-            "rows where n=^+1",
-            "rows where n=^01", "rows where n=^-0", "rows where n=^1-", "rows where n=^--1",
+            "rows where n=^+1", "rows where n=^01", "rows where n=^-0", "rows where n=^1-", "rows where n=^--1",
             "rows where n=^2020-02-30",
             "rows where n=^9223372036854775808", "rows where n=^-9223372036854775809", "rows where n=1^.5",
             "rows where d=^2019-02-29", "rows where d=^2020-2-29", "rows where t=^'x", "rows where t=^'",
             "rows where t='x'^'", "rows where t='x'^'y'", "rows where t='x'^y", "rows where t=^\"x\"",
-            "rows where n^'x'",
-            "rows where n=1 ^-1", "rows where n<>^>1", "rows where n=^>1", "rows where n>=^=1", "rows where n>^<1"}) {
+            "rows where n^'x'", "rows where n=1 ^-1", "rows where (n=1^=", "rows where n^)1",
+            "rows where n<>^>1", "rows where n=^>1", "rows where n>=^=1", "rows where n>^<1"}) {
             due(marked);
         }
     }
@@ -73,6 +72,18 @@ public final class FaultTest {
             due(marked);
         }
         due(Run.of("t\nx\n"), "sum(^");
+    }
+
+    /** Each has 96 characters: nothing may be read behind them. */
+    private static void fullQuestions() {
+        due("rows where t=^'" + "x".repeat(82));
+        due("rows where t=^" + "x".repeat(83));
+        due("rows where n=^" + "1".repeat(83));
+        due("rows" + " ".repeat(86) + "where ^");
+        due("rows where" + " ".repeat(84) + "n<^");
+        due("rows where" + " ".repeat(84) + "n>^");
+        due("rows where" + " ".repeat(84) + "n ^");
+        due("rows where" + " ".repeat(85) + "^?");
     }
 
     private static void whatCannotBeComparedOrSummed() {

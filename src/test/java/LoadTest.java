@@ -14,6 +14,7 @@ public final class LoadTest {
         tooManyRows();
         theFirstKindGoesFirst();
         whatALoadLeaves();
+        fullTextsAgainAndAgain();
         Run.finish();
     }
 
@@ -117,6 +118,18 @@ public final class LoadTest {
         due("A" + many, UNNAMED);
         due("\n\n,\"x\"y", ILLEGAL);
         due("A\n1,2", UNEVEN);
+    }
+
+    private static void fullTextsAgainAndAgain() {
+        Run run = new Run();
+        for (int i = 0; i < 5; i++) {
+            Run.due("load of a full text", run.load("a\n" + "x".repeat(238)), "1");
+            Run.due("load of a full text", run.load("a\n\"" + "x".repeat(237)), ILLEGAL);
+            Run.due("load of a full text", run.load("a\n" + "x".repeat(237) + "\r"), ILLEGAL);
+            Run.due("load of a full text", run.load("a\n\"" + "x".repeat(236) + "\""), "1");
+            Run.due("load of a full text", run.load("a\n" + "x".repeat(237) + ","), UNEVEN);
+        }
+        Run.due("the table", run.written(false), "a\n" + "x".repeat(236) + "\n");
     }
 
     private static void whatALoadLeaves() {

@@ -9,7 +9,31 @@ public final class PutCutTest {
         cutKeepsTheFirst();
         textAndQuestionAreTwo();
         charactersStayWhateverReadsThem();
+        whatIsCutIsNotReadAnyMore();
         Run.finish();
+    }
+
+    private static void whatIsCutIsNotReadAnyMore() {
+        Run run = new Run();
+        run.put(false, "a\r\n");
+        run.x.cut(false, 2);
+        Run.due("13 whose 10 was cut", Run.told(run.x::load), "IllegalArgumentException");
+        run.put(false, "a\n\"x\"");
+        run.x.cut(false, 4);
+        Run.due("a field whose end was cut", Run.told(run.x::load), "IllegalArgumentException");
+        run.put(false, "a\n\"x\"\"");
+        run.x.cut(false, 5);
+        Run.due("a field that was cut to an end", Run.told(run.x::load), "1");
+        for (String question : new String[] {"rows where  ", "rows where a=''", "rows where a<>''"}) {
+            run.put(true, question);
+            run.x.cut(true, question.length() - 2);
+            Run.due("ask of a cut [" + question + "]", Run.told(run.x::ask), "IllegalArgumentException");
+            Run.due("fault of a cut [" + question + "]", run.x.fault(), question.length() - 2);
+        }
+        run.put(true, "rows where a<>''");
+        run.x.cut(true, 13);
+        run.x.put(true, Run.word("'z'"), 3);
+        Run.due("a sign that was cut", Run.told(run.x::ask), "1");
     }
 
     private static void theLowestByteComesFirst() {
