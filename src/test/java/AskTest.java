@@ -167,6 +167,7 @@ public final class AskTest {
         due(run, "rows where sixlet=6", "0");
         due(run, "sum(sum)by count where rows<>most", "1 1");
         due(run, "count by sixlet", "1 1");
+        due(Run.of("az,za\n1,2\n2,1\n"), "rows where az<za and za=2", "0");
     }
 
     private static void wrongCalls() {

@@ -14,7 +14,7 @@ public final class LoadTest {
         tooManyRows();
         theFirstKindGoesFirst();
         whatALoadLeaves();
-        fullTextsAgainAndAgain();
+        textsBehindOneAnother();
         Run.finish();
     }
 
@@ -120,8 +120,10 @@ public final class LoadTest {
         due("A\n1,2", UNEVEN);
     }
 
-    private static void fullTextsAgainAndAgain() {
+    private static void textsBehindOneAnother() {
         Run run = new Run();
+        Run.due("load of seven columns", run.load("a,b,c,d,e,f,g"), UNEVEN);
+        Run.due("load of nothing behind it", run.load(""), UNNAMED);
         for (int i = 0; i < 5; i++) {
             Run.due("load of a full text", run.load("a\n" + "x".repeat(238)), "1");
             Run.due("load of a full text", run.load("a\n\"" + "x".repeat(237)), ILLEGAL);
