@@ -14,6 +14,12 @@ public final class AggregateTest {
         withBy();
         whatIsMissing();
         wrongCalls();
+        aggregatesOfLines();
+        noAnswer();
+        answersOfRows();
+        leastOrMostOfTexts();
+        noSuchLine();
+        missingAggregates();
         Run.finish();
     }
 
@@ -73,6 +79,93 @@ public final class AggregateTest {
         due(Run.of("a\n0\n"), "sum(a)", "1", "0");
         due(Run.of("a\n5\n-5\n"), "sum(a)", "2", "0");
         due(Run.of("a\n-9223372036854775808\n"), "sum(a)", "1", "-9223372036854775808");
+    }
+
+    private static void aggregatesOfLines() {
+        Run.sentence("The aggregate of line k, as a value");
+        Run run = Run.of("g,v,d\n1,5,2020-02-29\n2,7,0001-01-01\n1,-9,9999-12-31\n");
+        due(run, "count by g", "2 1", "2 1");
+        due(run, "sum(v) by g", "2 1", "-4 7");
+        due(run, "least(v) by g", "2 1", "-9 7");
+        due(run, "most(v) by g", "2 1", "5 7");
+        due(run, "least(d) by g", "2 1", "20200229 10101");
+        due(run, "most(d)", "3", "99991231");
+        due(Run.of("a\n9223372036854775807\n"), "sum(a)", "1", "9223372036854775807");
+        due(Run.of("a\n-9223372036854775808\n"), "least(a)", "1", "-9223372036854775808");
+    }
+
+    private static void dueEverywhere(Run run, String what, String want) {
+        for (int k : new int[] {Integer.MIN_VALUE, -1, 0, 1, 15, 16, Integer.MAX_VALUE}) {
+            Run.due("aggregate " + k + " of " + what, run.aggregate(k), want);
+        }
+    }
+
+    private static void noAnswer() {
+        Run.sentence("IllegalStateException when there is no answer");
+        Run run = new Run();
+        dueEverywhere(run, "a new object", OF_TEXT);
+        run.load("a\n1\n");
+        dueEverywhere(run, "a table alone", OF_TEXT);
+        run.ask("count");
+        Run.due("aggregate 0", run.aggregate(0), "1");
+        run.x.load();
+        dueEverywhere(run, "an answer that a load took", OF_TEXT);
+        run.ask("count");
+        run.ask("count by");
+        dueEverywhere(run, "no question", OF_TEXT);
+    }
+
+    private static void answersOfRows() {
+        Run.sentence("or it is one of rows");
+        Run run = Run.of(TABLE);
+        for (String question : new String[] {"rows", "rows where n=1 order n", "rows where n=7"}) {
+            run.ask("count by n");
+            run.ask(question);
+            dueEverywhere(run, question, OF_TEXT);
+        }
+    }
+
+    private static void leastOrMostOfTexts() {
+        Run.sentence("or of least or most of a TEXT");
+        Run run = Run.of(TABLE);
+        for (String question : new String[] {"least(t)", "most(t) by n", "least(t) where t is null",
+            "most(t) where n=7", "most(t) by n where n=7", "least(t) by t"}) {
+            run.ask(question);
+            dueEverywhere(run, question, OF_TEXT);
+        }
+        due(run, "count by t where t='x'", "2", "2");
+        due(run, "sum(n) by t where t='x'", "2", "3");
+        due(run, "least(d) by t where t='x'", "2", "20200229");
+    }
+
+    private static void noSuchLine() {
+        Run.sentence("IndexOutOfBoundsException when it has no such line");
+        String[][] questions = {{"count", "1"}, {"count by n", "4"}, {"sum(n)", "1"}, {"least(m) by n", "4"},
+            {"most(d) by t", "4"}, {"count by n where n=7", "0"}, {"sum(n) by n where n=7", "0"},
+            {"sum(n) where n=7", "1"}, {"most(n) where n is null", "1"}};
+        for (String[] question : questions) {
+            Run run = Run.of(TABLE);
+            int lines = Integer.parseInt(run.ask(question[0]));
+            Run.due("lines of " + question[0], lines, Integer.parseInt(question[1]));
+            for (int k : new int[] {Integer.MIN_VALUE, -1, lines, lines + 1, 15, 16, Integer.MAX_VALUE}) {
+                Run.due("aggregate " + k + " of " + question[0], run.aggregate(k), "IndexOutOfBoundsException");
+            }
+            Run.due("the last line of " + question[0],
+                    lines == 0 || !run.aggregate(lines - 1).equals("IndexOutOfBoundsException"), true);
+        }
+    }
+
+    private static void missingAggregates() {
+        Run.sentence("NoSuchElementException when it is missing");
+        Run run = Run.of("g,v\n1,\n1,\n2,0\n,\n");
+        due(run, "sum(v)", "4", "0");
+        due(run, "sum(v) by g", "1 2 1", MISSING + " " + MISSING + " 0");
+        due(run, "least(v) by g", "1 2 1", MISSING + " " + MISSING + " 0");
+        due(run, "most(v) by g", "1 2 1", MISSING + " " + MISSING + " 0");
+        due(run, "count by g", "1 2 1", "1 2 1");
+        due(run, "sum(v) where g=1", "2", MISSING);
+        due(run, "most(v) where g=7", "0", MISSING);
+        due(run, "count where g=7", "0", "0");
     }
 
     private static void wrongCalls() {

@@ -19,6 +19,14 @@ public final class AskTest {
         wrongCalls();
         sumsBeyond();
         whatAnAskLeaves();
+        noTable();
+        howManyRowsOrLines();
+        sumsAtTheEnds();
+        sumsOnTheWay();
+        noAnswerAnyMore();
+        linesWithoutAnAnswer();
+        linesOfAnEmptyAnswer();
+        theLastLineAndOneBehind();
         Run.finish();
     }
 
@@ -213,6 +221,168 @@ public final class AskTest {
         due(Run.of("a\n9223372036854775807\n1\n-1\n"), "sum(a)", beyond);
         due(Run.of("a\n9223372036854775807\n-1\n1\n"), "sum(a)", "3");
         due(Run.of("a,g\n9223372036854775807,2\n5,1\n1,2\n"), "sum(a) by g", beyond);
+    }
+
+    private static final String LEAST = "-9223372036854775808";
+    private static final String GREATEST = "9223372036854775807";
+    private static final String BEYOND = "UnsupportedOperationException";
+
+    private static void noTable() {
+        Run.sentence("IllegalStateException when there is no table");
+        for (String question : new String[] {"", "rows", "count", "?", "sum("}) {
+            Run run = new Run();
+            Run.due("ask of [" + question + "]", run.ask(question), "IllegalStateException");
+            Run.due("load of no table", run.load("a,b\n1"), "IllegalStateException");
+            Run.due("ask of [" + question + "]", run.ask(question), "IllegalStateException");
+            Run.due("load of a table without rows", run.load("a"), "0");
+            boolean asks = question.equals("rows") || question.equals("count");
+            Run.due("ask of [" + question + "] of it", run.ask(question),
+                    !asks ? "IllegalArgumentException" : question.equals("rows") ? "0" : "1");
+        }
+    }
+
+    private static void howManyRowsOrLines() {
+        Run.sentence("Asks the question: how many rows or lines the answer has");
+        for (int rows = 0; rows <= 16; rows++) {
+            StringBuilder text = new StringBuilder("a");
+            for (int row = 0; row < rows; row++) {
+                text.append('\n').append(row);
+            }
+            Run run = Run.of(text.toString());
+            Run.due("rows of " + rows, run.ask("rows") + " " + run.x.lines(), rows + " " + rows);
+            Run.due("lines of " + rows, run.ask("count by a") + " " + run.x.lines(), rows + " " + rows);
+            Run.due("one line of " + rows, run.ask("count") + " " + run.x.lines(), "1 1");
+        }
+    }
+
+    private static void dueSum(String want, String... cells) {
+        Run run = Run.of("a\n" + String.join("\n", cells) + "\n");
+        String count = run.ask("sum(a)");
+        Run.due("sum of " + String.join(" ", cells), count.equals("1") ? run.aggregate(0) : count, want);
+        Run.due("fault of it", run.x.fault(), AskedTable.NONE);
+        Run.due("lines of it", run.x.lines(), count.equals("1") ? 1 : AskedTable.NONE);
+    }
+
+    private static void sumsAtTheEnds() {
+        Run.sentence("UnsupportedOperationException when a sum, or one on the way in the order of the rows, is not from"
+                + " -2^63 to 2^63 - 1");
+        dueSum(GREATEST, GREATEST);
+        dueSum(GREATEST, GREATEST, "0");
+        dueSum(GREATEST, "9223372036854775806", "1");
+        dueSum(GREATEST, "1", "9223372036854775806");
+        dueSum(GREATEST, "4611686018427387904", "4611686018427387903");
+        dueSum(BEYOND, GREATEST, "1");
+        dueSum(BEYOND, "1", GREATEST);
+        dueSum(BEYOND, "4611686018427387904", "4611686018427387904");
+        dueSum(BEYOND, GREATEST, GREATEST);
+        dueSum(LEAST, LEAST);
+        dueSum(LEAST, LEAST, "0");
+        dueSum(LEAST, "-9223372036854775807", "-1");
+        dueSum(LEAST, "-1", "-9223372036854775807");
+        dueSum(LEAST, "-4611686018427387904", "-4611686018427387904");
+        dueSum(BEYOND, LEAST, "-1");
+        dueSum(BEYOND, "-1", LEAST);
+        dueSum(BEYOND, "-4611686018427387904", "-4611686018427387905");
+        dueSum(BEYOND, LEAST, LEAST);
+        dueSum("-1", LEAST, GREATEST);
+        dueSum("-1", GREATEST, LEAST);
+    }
+
+    private static void sumsOnTheWay() {
+        Run.sentence("or one on the way in the order of the rows");
+        dueSum(BEYOND, GREATEST, "1", "-1");
+        dueSum(GREATEST, GREATEST, "-1", "1");
+        dueSum(GREATEST, "-1", GREATEST, "1");
+        dueSum(BEYOND, LEAST, "-1", "1");
+        dueSum(LEAST, LEAST, "1", "-1");
+        dueSum(BEYOND, GREATEST, GREATEST, LEAST, LEAST);
+        dueSum("-2", GREATEST, LEAST, GREATEST, LEAST);
+        dueSum(BEYOND, GREATEST, "", "1", "", LEAST);
+        dueSum(GREATEST, "", GREATEST, "");
+        String table = "a,g\n" + GREATEST + ",2\n1,1\n-1,2\n1,2\n" + LEAST + ",1\n-1,\n";
+        due(Run.of(table), "sum(a)", BEYOND);
+        due(Run.of(table), "sum(a) by g", "1 2 3");
+        due(Run.of(table), "sum(a) where g=2", "3");
+        due(Run.of(table), "sum(a) where a>0", BEYOND);
+        due(Run.of(table), "sum(a) by g where a<0", "1 1 1");
+        due(Run.of(table), "sum(a) where a<0", BEYOND);
+        due(Run.of(table), "sum(a) by g where a>0", BEYOND);
+        due(Run.of("a,g\n1,1\n" + GREATEST + ",2\n2,1\n1,2\n"), "sum(a) by g", BEYOND);
+        due(Run.of("a,g\n1,2\n" + LEAST + ",1\n2,2\n-1,1\n"), "sum(a) by g", BEYOND);
+        due(Run.of("a\n" + GREATEST + "\n1\n"), "most(a)", "2");
+        due(Run.of("a\n" + GREATEST + "\n1\n"), "sum(a) where a is null", "0");
+    }
+
+    private static void noAnswerAnyMore() {
+        Run.sentence("(With an exception there is no answer any more.)");
+        for (String before : new String[] {"rows", "count by a", "least(a)"}) {
+            for (String question : new String[] {"sum(a)", "rows where", ""}) {
+                Run run = Run.of("a\n" + GREATEST + "\n1\n");
+                run.ask(before);
+                Run.due("ask of [" + question + "]", run.ask(question),
+                        question.equals("sum(a)") ? BEYOND : "IllegalArgumentException");
+                Run.due("lines", run.x.lines(), AskedTable.NONE);
+                Run.due("line 0", run.line(0), "IllegalStateException");
+                Run.due("aggregate 0", run.aggregate(0), "IllegalStateException");
+                Run.due("the answer", run.written(true), "IllegalStateException");
+                Run.due("the table", run.written(false), "a\n" + GREATEST + "\n1\n");
+                Run.due("the next question", run.ask("rows"), "2");
+            }
+        }
+    }
+
+    private static void linesWithoutAnAnswer() {
+        Run.sentence("How many rows or lines the answer has; NONE when there is none");
+        Run run = new Run();
+        Run.due("lines of a new object", run.x.lines(), AskedTable.NONE);
+        run.load("a\n1\n");
+        Run.due("lines before a question", run.x.lines(), AskedTable.NONE);
+        run.put(true, "rows");
+        Run.due("lines before the ask", run.x.lines(), AskedTable.NONE);
+        run.x.ask();
+        Run.due("lines of an answer", run.x.lines(), 1);
+        run.ask("rows where a=2");
+        Run.due("lines of an empty answer", run.x.lines(), 0);
+        run.ask("rows where a=");
+        Run.due("lines after no question", run.x.lines(), AskedTable.NONE);
+        Run.sentence("IllegalStateException when there is no answer");
+        for (int k : new int[] {-1, 0, 1, Integer.MIN_VALUE, Integer.MAX_VALUE}) {
+            Run.due("line " + k, run.line(k), "IllegalStateException");
+        }
+    }
+
+    private static void linesOfAnEmptyAnswer() {
+        Run.sentence("IndexOutOfBoundsException when it has no such row or line");
+        for (String question : new String[] {"rows where a=7", "rows where a=7 order a desc", "count by a where a=7",
+            "most(a) by a where a=7"}) {
+            Run run = Run.of("a\n1\n2\n");
+            run.ask("rows");
+            Run.due("ask of [" + question + "]", run.ask(question), "0");
+            Run.due("lines of [" + question + "]", run.x.lines(), 0);
+            for (int k : new int[] {-1, 0, 1, Integer.MIN_VALUE, Integer.MAX_VALUE}) {
+                Run.due("line " + k + " of [" + question + "]", run.line(k), "IndexOutOfBoundsException");
+            }
+        }
+    }
+
+    private static void theLastLineAndOneBehind() {
+        Run.sentence("Of an answer of rows: the number of row k of it. Of an aggregate: how many rows were chosen for"
+                + " line k");
+        String[][] questions = {{"rows", "0", "2"}, {"rows order a desc", "1", "2"}, {"rows where a=1", "0", "2"},
+            {"count by a", "2", "1"}, {"sum(a) by a", "2", "1"}, {"most(a) by a where a>0", "2", "1"},
+            {"count", "3", "3"}, {"count where a=7", "0", "0"}, {"least(a) where a=2", "1", "1"}};
+        for (String[] question : questions) {
+            Run run = Run.of("a\n1\n2\n1\n");
+            int lines = Integer.parseInt(run.ask(question[0]));
+            Run.due("the first of [" + question[0] + "]", run.line(0), question[1]);
+            Run.due("the last of [" + question[0] + "]", run.line(lines - 1), question[2]);
+            for (int k : new int[] {-1, lines, 16, Integer.MIN_VALUE, Integer.MAX_VALUE}) {
+                Run.due("line " + k + " of [" + question[0] + "]", run.line(k), "IndexOutOfBoundsException");
+            }
+        }
+        Run sixteen = Run.of("a" + "\n1".repeat(16));
+        sixteen.ask("rows");
+        Run.due("the last of sixteen", sixteen.line(15) + sixteen.line(16), "15IndexOutOfBoundsException");
     }
 
     private static void whatAnAskLeaves() {

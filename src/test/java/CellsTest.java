@@ -14,6 +14,8 @@ public final class CellsTest {
         cellsThatAreThere();
         values();
         whichExceptionIsFirst();
+        withoutATable();
+        cornersOfTables();
         Run.finish();
     }
 
@@ -94,26 +96,22 @@ public final class CellsTest {
         }
     }
 
-    private static String missing(Run run, int row, int column) {
-        return Run.told(() -> run.x.isMissing(row, column) ? 1 : 0);
-    }
-
     private static void cellsThatAreThere() {
         Run run = Run.of("a,b\n,\"\"\n1,\n\" \", ");
-        Run.due("a plain one without characters", missing(run, 0, 0), "1");
-        Run.due("a quoted one without characters", missing(run, 0, 1), "0");
-        Run.due("a number", missing(run, 1, 0), "0");
-        Run.due("the record's end", missing(run, 1, 1), "1");
-        Run.due("a quoted space", missing(run, 2, 0), "0");
-        Run.due("a plain space", missing(run, 2, 1), "0");
+        Run.due("a plain one without characters", run.missing(0, 0), "1");
+        Run.due("a quoted one without characters", run.missing(0, 1), "0");
+        Run.due("a number", run.missing(1, 0), "0");
+        Run.due("the record's end", run.missing(1, 1), "1");
+        Run.due("a quoted space", run.missing(2, 0), "0");
+        Run.due("a plain space", run.missing(2, 1), "0");
         int[][] outside = {{-1, 0}, {0, -1}, {3, 0}, {0, 2}, {-1, -1}, {3, 2}, {-1, 2},
             {Integer.MAX_VALUE, 0}, {0, Integer.MAX_VALUE}, {Integer.MIN_VALUE, 1}, {1, Integer.MIN_VALUE}};
         for (int[] cell : outside) {
             String place = "cell " + cell[0] + ", " + cell[1];
-            Run.due("isMissing of " + place, missing(run, cell[0], cell[1]), NO_CELL);
+            Run.due("isMissing of " + place, run.missing(cell[0], cell[1]), NO_CELL);
             Run.due("value of " + place, Run.told(() -> run.x.value(cell[0], cell[1])), NO_CELL);
         }
-        Run.due("a cell of a table without rows", missing(Run.of("a"), 0, 0), NO_CELL);
+        Run.due("a cell of a table without rows", Run.of("a").missing(0, 0), NO_CELL);
     }
 
     private static void values() {
@@ -127,6 +125,66 @@ public final class CellsTest {
         }
         Run.due("values", told, "0 9223372036854775807 20200229 -2147483648 -9223372036854775808 10101 "
                 + "2147483647 -1 99991231 ");
+    }
+
+    private static void withoutATable() {
+        Run run = new Run();
+        for (String text : new String[] {"", "a,b\n1,2", "a,b\n1"}) {
+            // Not loaded, or not to be loaded.
+            run.put(false, text);
+            if (!text.equals("a,b\n1,2")) {
+                Run.told(run.x::load);
+            }
+            Run.sentence("How many columns the table has (0 if there is none)");
+            Run.due("columns", run.x.columns(), 0);
+            Run.sentence("IndexOutOfBoundsException when there is none");
+            for (int i : new int[] {-1, 0, 1, Integer.MIN_VALUE, Integer.MAX_VALUE}) {
+                Run.due("type " + i, run.type(i), NO_CELL);
+                Run.due("isMissing " + i, run.missing(i, 0) + run.missing(0, i), NO_CELL + NO_CELL);
+                Run.due("value " + i, run.value(i, 0) + run.value(0, i), NO_CELL + NO_CELL);
+            }
+        }
+    }
+
+    /** Tables of all sizes, with the number 10 * row + column in each cell: the corners, and one step outside. */
+    private static void cornersOfTables() {
+        for (int columns = 1; columns <= 6; columns++) {
+            for (int rows : new int[] {0, 1, 2, 9}) {
+                dueCorners(columns, rows, Run.of(numbered(columns, rows)));
+            }
+        }
+        dueCorners(1, 16, Run.of(numbered(1, 16)));
+        dueCorners(4, 16, Run.of(numbered(4, 16)));
+        Run wide = Run.of("a,b,c,d,e,f" + "\n,,,,,".repeat(15) + "\n,,,,,7");
+        Run.due("the last cell", wide.missing(15, 5) + wide.value(15, 5), "07");
+        Run.due("those beside it", wide.missing(15, 4) + wide.missing(14, 5) + wide.missing(0, 0), "111");
+        Run.due("those outside", wide.missing(16, 0) + wide.missing(15, 6) + wide.value(16, 5), NO_CELL.repeat(3));
+    }
+
+    private static String numbered(int columns, int rows) {
+        StringBuilder text = new StringBuilder("a,b,c,d,e,f".substring(0, 2 * columns - 1));
+        for (int row = 0; row < rows; row++) {
+            for (int column = 0; column < columns; column++) {
+                text.append(column == 0 ? '\n' : ',').append(10 * row + column);
+            }
+        }
+        return text.toString();
+    }
+
+    private static void dueCorners(int columns, int rows, Run run) {
+        Run.sentence("IndexOutOfBoundsException when there is none");
+        Run.due("columns", run.x.columns(), columns);
+        int[] somewhere = {Integer.MIN_VALUE, -1, 0, columns - 1, columns, rows - 1, rows, Integer.MAX_VALUE};
+        for (int column : somewhere) {
+            boolean has = column >= 0 && column < columns;
+            Run.due("type " + column + " of " + columns, run.type(column), has ? "0" : NO_CELL);
+            for (int row : somewhere) {
+                boolean is = has && row >= 0 && row < rows;
+                String cell = "(" + row + ", " + column + ") of " + rows + " rows and " + columns + " columns";
+                Run.due("isMissing" + cell, run.missing(row, column), is ? "0" : NO_CELL);
+                Run.due("value" + cell, run.value(row, column), is ? "" + (10 * row + column) : NO_CELL);
+            }
+        }
     }
 
     private static void whichExceptionIsFirst() {

@@ -10,6 +10,14 @@ public final class FaultTest {
         whatCannotBeComparedOrSummed();
         tooDeep();
         whenThereIsNone();
+        theFirstCharacter();
+        noneAfterThoseBefore();
+        otherCharacters();
+        theOtherOne();
+        neverBeforeTheSummedName();
+        theLengthOfTheQuestion();
+        noneOfAQuestion();
+        anAskWithoutATable();
         Run.finish();
     }
 
@@ -111,6 +119,125 @@ public final class FaultTest {
         due("rows where ((((((((n=1)and n=1)or ((^(");
         due("rows where n=1 and not not not not not not not not ^not");
         due("count where ((((((((n=1 or n=1))))))))^)");
+    }
+
+    private static void theFirstCharacter() {
+        Run.sentence("the place of the token with which the latest question that was none went wrong: the first"
+                + " character");
+        due("^wrong");
+        due("     ^wrong");
+        due("rows     ^wrong");
+        due("rows where t = ^'a text without an end");
+        due("rows where n = ^123456789012345678901234567890");
+        due("rows where n ^wrong = 1");
+        due("rows where n=1 ^<= 2");
+        due(" ".repeat(95) + "^?");
+        due("rows" + " ".repeat(91) + "^x");
+    }
+
+    private static void noneAfterThoseBefore() {
+        Run.sentence("of the first token that no question (of this table) has after those before it");
+        due("^? rows ? where");
+        due("rows where ^q=1 and r=2");
+        due("rows where n=1 and ^q=1 order r");
+        due("count by ^q where r=1");
+        due(Run.of("q,r\n1,2\n"), "count by q where r=1 ^order q");
+        due(Run.of("q,r\n1,2\n"), "rows where q=1 and ^n=1");
+        due("rows where ((((((((^((((n=1");
+        due("rows where n=1 and not not not not not not not not ^not n=1");
+    }
+
+    private static void otherCharacters() {
+        Run.sentence("any other character fits nowhere");
+        for (char c = 32; c <= 126; c++) {
+            // A mark of the place can't be put before itself.
+            if (" -'()=<>^".indexOf(c) < 0 && !Character.isDigit(c) && !Character.isLowerCase(c)) {
+                due("^" + c);
+                due("rows^" + c);
+                due("rows where n^" + c + "1");
+                due("rows where n=^" + c + "1");
+                due("rows where n=1^" + c);
+                due("rows where n<^" + c);
+                due("rows where t='x'^" + c);
+                due("sum(^" + c + ")");
+                due("sum(n^" + c + ")");
+                due("count by ^" + c + "n");
+            }
+        }
+    }
+
+    private static void theOtherOne() {
+        Run.sentence("or with the other one can't be compared or summed");
+        due("rows where n=^'x' and q");
+        due("rows where n=^d or");
+        due("rows where t<^n");
+        due("rows where d>=^20200229");
+        due("sum(^t) where q=1");
+        due("sum(^d) order");
+    }
+
+    private static void neverBeforeTheSummedName() {
+        Run.sentence("(of 'sum' never before its NAME)");
+        // No column of this table has numbers: still it is the name that is wrong.
+        Run texts = Run.of("t,d\nx,2020-02-29\n");
+        due(texts, "sum(^t)");
+        due(texts, "sum ( ^d )");
+        due(texts, "sum^");
+        due(texts, "sum(^");
+        due(texts, "sum ^t");
+        due(texts, "sum(^)");
+        due(texts, "sum(^(t))");
+        due(texts, "sum(^q)");
+    }
+
+    private static void theLengthOfTheQuestion() {
+        Run.sentence("the question's length, if more would be wanted");
+        due("^");
+        due(" ^");
+        due(" ".repeat(96) + "^");
+        due("rows where^");
+        due("rows where   ^");
+        due("rows where n^");
+        due("rows where n=^");
+        due("rows where n is^");
+        due("rows where not^");
+        due("rows where (^");
+        due("rows where (n=1^");
+        due("rows where (n=1 ^");
+        due("rows where n=1 and^");
+        due("rows where n=1 or ^");
+        due("rows order^");
+        due("count by^");
+        due("count where^");
+        due("sum^");
+        due("least(^");
+        due("most(n^");
+        due("rows where" + " ".repeat(86) + "^");
+    }
+
+    private static void noneOfAQuestion() {
+        Run.sentence("NONE when the latest one was a question (also one whose sum is beyond), or there was none");
+        Run run = Run.of("a\n9223372036854775807\n1\n");
+        Run.due("fault when there was none", run.x.fault(), AskedTable.NONE);
+        for (String question : new String[] {"rows", "sum(a)", "rows where a=7", "count", "sum(a) by a"}) {
+            due(run, "rows ^wrong");
+            run.ask(question);
+            Run.due("fault of " + question, run.x.fault(), AskedTable.NONE);
+            Run.due("fault of " + question + " once more", run.x.fault(), AskedTable.NONE);
+        }
+        due(run, "rows ^wrong");
+        due(run, "rows where ^wrong");
+        run.x.cut(true, 0);
+        Run.due("fault of a question that was cut since", run.x.fault(), 11);
+    }
+
+    private static void anAskWithoutATable() {
+        Run.sentence("an ask() without a table leaves it");
+        Run run = new Run();
+        for (String question : new String[] {"", "?", "rows", "rows where"}) {
+            run.ask(question);
+            Run.due("fault of [" + question + "] without a table", run.x.fault(), AskedTable.NONE);
+        }
     }
 
     private static void whenThereIsNone() {

@@ -4,11 +4,13 @@ import java.lang.reflect.Method;
 import java.lang.reflect.Modifier;
 import java.util.Arrays;
 import java.util.TreeSet;
+import java.util.function.Function;
 
 /** Promise 1, and the public face. */
 public final class NewObjectTest {
     public static void main(String[] args) {
         nothingIsThere();
+        eachCallAsTheFirst();
         objectsShareNothing();
         theFaceIsTheDocuments();
         Run.finish();
@@ -33,7 +35,52 @@ public final class NewObjectTest {
         Run.due("load of the empty text", Run.told(run.x::load), "NoSuchElementException");
     }
 
+    private static void dueFirst(String what, Function<AskedTable, Object> call, String want) {
+        String got;
+        try {
+            got = call.apply(new AskedTable()).toString();
+        } catch (RuntimeException thrown) {
+            got = thrown.getClass().getSimpleName();
+        }
+        Run.due(what + " as the first call", got, want);
+    }
+
+    private static void eachCallAsTheFirst() {
+        String none = "IllegalStateException";
+        String nowhere = "IndexOutOfBoundsException";
+        Run.sentence("An empty text, an empty question");
+        for (boolean question : new boolean[] {false, true}) {
+            dueFirst("put", x -> x.put(question, 'a', 1), "true");
+            dueFirst("put of eight", x -> x.put(question, Run.word("abcdefgh"), 8), "true");
+            dueFirst("put of none", x -> x.put(question, 'a', 0), "false");
+            dueFirst("put of nine", x -> x.put(question, Run.word("abcdefgh"), 9), "false");
+            dueFirst("put of 127", x -> x.put(question, 127, 1), "false");
+            dueFirst("cut to 0", x -> x.cut(question, 0), "true");
+            dueFirst("cut to 1", x -> x.cut(question, 1), "false");
+            dueFirst("cut to -1", x -> x.cut(question, -1), "false");
+        }
+        dueFirst("load", x -> x.load(), "NoSuchElementException");
+        Run.sentence("no table, no answer; OUT is empty");
+        dueFirst("columns", x -> x.columns(), "0");
+        dueFirst("ask", x -> x.ask(), none);
+        dueFirst("fault", x -> x.fault(), "-1");
+        dueFirst("lines", x -> x.lines(), "-1");
+        dueFirst("write of the table", x -> x.write(false), none);
+        dueFirst("write of the answer", x -> x.write(true), none);
+        for (int i : new int[] {0, -1, 1, 5, 15, Integer.MIN_VALUE, Integer.MAX_VALUE}) {
+            dueFirst("type " + i, x -> x.type(i), nowhere);
+            dueFirst("isMissing " + i + ", 0", x -> x.isMissing(i, 0), nowhere);
+            dueFirst("isMissing 0, " + i, x -> x.isMissing(0, i), nowhere);
+            dueFirst("value " + i + ", 0", x -> x.value(i, 0), nowhere);
+            dueFirst("value 0, " + i, x -> x.value(0, i), nowhere);
+            dueFirst("line " + i, x -> x.line(i), none);
+            dueFirst("aggregate " + i, x -> x.aggregate(i), none);
+            dueFirst("out " + i, x -> x.out(i), nowhere);
+        }
+    }
+
     private static void objectsShareNothing() {
+        Run.sentence("");
         Run full = Run.of("a\n1\n");
         full.ask("rows");
         full.written(true);

@@ -14,6 +14,7 @@ public final class PutCutTest {
     }
 
     private static void whatIsCutIsNotReadAnyMore() {
+        Run.sentence("The text or question keeps its first n characters");
         Run run = new Run();
         run.put(false, "a\r\n");
         run.x.cut(false, 2);
@@ -37,13 +38,23 @@ public final class PutCutTest {
     }
 
     private static void theLowestByteComesFirst() {
+        Run.sentence("n characters come behind the text, or behind the question, the lowest byte of w first");
         Run run = new Run();
         Run.due("put", run.x.put(false, 'a' | ',' << 8 | 'b' << 16, 3), true);
         Run.due("load", Run.told(run.x::load), "0");
         Run.due("written", run.written(false), "a,b\n");
+        Run.due("put of eight", run.x.put(false, Run.word("\n12345,6"), 8), true);
+        Run.due("put of one behind them", run.x.put(false, Run.word("78"), 1), true);
+        run.x.load();
+        Run.due("written", run.written(false), "a,b\n12345,67\n");
+        for (String part : new String[] {" count ", "w", "here a=1", "2345an", "d b=67"}) {
+            Run.due("put of a question's part", run.x.put(true, Run.word(part), part.length()), true);
+        }
+        Run.due("ask of the parts", Run.told(run.x::ask) + run.line(0), "11");
     }
 
     private static void theNumberOfCharacters() {
+        Run.sentence("False, changing nothing, when n is not 1 .. 8");
         Run run = new Run();
         long w = Run.word("abcdefgh");
         for (int n : new int[] {0, -1, 9, 16, Integer.MIN_VALUE, Integer.MAX_VALUE}) {
@@ -59,6 +70,7 @@ public final class PutCutTest {
     }
 
     private static void whichCharactersThereAre() {
+        Run.sentence("or one is not as said");
         for (int c = 0; c < 256; c++) {
             boolean printed = c >= 32 && c <= 126;
             Run run = new Run();
@@ -73,6 +85,7 @@ public final class PutCutTest {
     }
 
     private static void howManyThereAre(boolean question, int limit) {
+        Run.sentence("there would be more than it may have");
         Run run = new Run();
         for (int i = 0; i < limit; i += 8) {
             Run.due("put up to " + (i + 8), run.x.put(question, Run.word("aaaaaaaa"), 8), true);
@@ -86,6 +99,7 @@ public final class PutCutTest {
     }
 
     private static void cutKeepsTheFirst() {
+        Run.sentence("False, changing nothing, when n is negative, or it has not so many");
         Run run = new Run();
         run.put(false, "abc,d\n1,2");
         for (int n : new int[] {-1, 10, Integer.MIN_VALUE, Integer.MAX_VALUE}) {
@@ -104,6 +118,7 @@ public final class PutCutTest {
     }
 
     private static void textAndQuestionAreTwo() {
+        Run.sentence("The text or question keeps its first n characters");
         Run run = new Run();
         run.put(false, "a\n5");
         run.put(true, "rows");
@@ -115,6 +130,7 @@ public final class PutCutTest {
     }
 
     private static void charactersStayWhateverReadsThem() {
+        Run.sentence("(they stay, whatever reads them; cut() alone makes them shorter)");
         Run run = new Run();
         run.put(false, "a\n1\n");
         run.x.load();

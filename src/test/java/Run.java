@@ -3,12 +3,19 @@ import java.util.function.LongSupplier;
 /** An object under test, called with texts, and the count of answers that were not as due. */
 final class Run {
     private static int wrong = 0;
+    private static String sentence = "";
     final AskedTable x = new AskedTable();
+
+    /** The sentence of the document that the answers from here on are held against. */
+    static void sentence(String words) {
+        sentence = words;
+    }
 
     static void due(String what, Object got, Object want) {
         if (!got.equals(want)) {
             wrong++;
-            System.out.println(what + " answered " + got + ", due is " + want);
+            System.out.println((sentence.isEmpty() ? "" : "\"" + sentence + "\": ")
+                    + what + " answered " + got + ", due is " + want);
         }
     }
 
@@ -31,6 +38,11 @@ final class Run {
     /** The text or question becomes this one. */
     void put(boolean question, String chars) {
         due("cut", x.cut(question, 0), true);
+        add(question, chars);
+    }
+
+    /** This comes behind the text or question. */
+    void add(boolean question, String chars) {
         for (int i = 0; i < chars.length(); i += 8) {
             String part = chars.substring(i, Math.min(i + 8, chars.length()));
             due("put of " + part, x.put(question, word(part), part.length()), true);
@@ -62,6 +74,26 @@ final class Run {
         return run;
     }
 
+    String type(int column) {
+        return told(() -> x.type(column));
+    }
+
+    String missing(int row, int column) {
+        return told(() -> x.isMissing(row, column) ? 1 : 0);
+    }
+
+    String value(int row, int column) {
+        return told(() -> x.value(row, column));
+    }
+
+    String line(int k) {
+        return told(() -> x.line(k));
+    }
+
+    String aggregate(int k) {
+        return told(() -> x.aggregate(k));
+    }
+
     /** What write() puts into OUT, or the name of what it throws. */
     String written(boolean answer) {
         String length = told(() -> x.write(answer));
@@ -90,8 +122,7 @@ final class Run {
     String aggregatesTold() {
         StringBuilder told = new StringBuilder();
         for (int k = 0; k < x.lines(); k++) {
-            int at = k;
-            told.append(k == 0 ? "" : " ").append(told(() -> x.aggregate(at)));
+            told.append(k == 0 ? "" : " ").append(aggregate(k));
         }
         return told.toString();
     }

@@ -6,8 +6,13 @@ public final class WriteTest {
         answersOfRows();
         aggregates();
         whatIsWrittenIsATable();
-        theLongest();
         whatIsNotThere();
+        theLengthOfOut();
+        nothingToWrite();
+        emptyAnswers();
+        outBeforeAWrite();
+        charactersOfOut();
+        outStaysUntilTheNextWrite();
         Run.finish();
     }
 
@@ -79,19 +84,100 @@ public final class WriteTest {
         due(written, written);
     }
 
-    private static void theLongest() {
-        Run numbers = Run.of("a,b,c,d,e,f\n" + "1,1,1,1,1,1\n".repeat(15) + "x,x,x,x,x,x");
-        Run.due("all quoted", numbers.written(false).length(), 12 + 15 * 24 + 12);
-        Run marks = Run.of("a\n\"" + "\"\"".repeat(118) + "\"");
-        due(marks, "most(a) by a", "a,most\n\"" + "\"\"".repeat(118) + "\",\"" + "\"\"".repeat(118) + "\"\n");
-        StringBuilder text = new StringBuilder("a");
-        StringBuilder want = new StringBuilder("a,sum\n");
-        for (int row = 0; row < 16; row++) {
-            long number = -999999999999L + row;
-            text.append('\n').append(number);
-            want.append(number).append(',').append(number).append('\n');
+    private static void dueLength(Run run, boolean answer, String want) {
+        Run.due("length", Run.told(() -> run.x.write(answer)), Integer.toString(want.length()));
+        Run.due("OUT", run.out(want.length()), want);
+    }
+
+    private static void theLengthOfOut() {
+        Run.sentence("WRITES the table, or the answer: the length of OUT");
+        dueLength(Run.of("a"), false, "a\n");
+        dueLength(Run.of("a\n1"), false, "a\n1\n");
+        dueLength(Run.of("\"a\"\r\n\"x\"\r\n"), false, "a\nx\n");
+        Run run = Run.of("a,b\n1,x\n2,\n");
+        run.ask("rows where a=2");
+        dueLength(run, false, "a,b\n1,x\n2,\n");
+        dueLength(run, true, "a,b\n2,\n");
+        run.ask("most(b) by a");
+        dueLength(run, true, "a,most\n1,x\n2,\n");
+        dueLength(run, false, "a,b\n1,x\n2,\n");
+        dueLength(run, true, "a,most\n1,x\n2,\n");
+    }
+
+    private static void nothingToWrite() {
+        Run.sentence("IllegalStateException when there is none");
+        Run run = new Run();
+        Run.due("no table", run.written(false), "IllegalStateException");
+        Run.due("no answer", run.written(true), "IllegalStateException");
+        run.load("a,b\n1");
+        Run.due("no table after a load that throws", run.written(false), "IllegalStateException");
+        run.load("a\n1");
+        Run.due("no answer of a table", run.written(true), "IllegalStateException");
+        Run.due("the table", run.written(false), "a\n1\n");
+        run.ask("rows");
+        Run.due("the answer", run.written(true), "a\n1\n");
+        run.ask("rows where");
+        Run.due("no answer after no question", run.written(true), "IllegalStateException");
+        run.ask("rows");
+        run.x.load();
+        Run.due("no answer after a load", run.written(true), "IllegalStateException");
+    }
+
+    private static void emptyAnswers() {
+        Run.sentence("for each row or line its cells with commas between; 10");
+        Run run = Run.of("a,b\n1,x\n");
+        due(run, "rows where a=7", "a,b\n");
+        due(run, "count by a where a=7", "a,count\n");
+        due(run, "most(b) by b where a=7", "b,most\n");
+        due(run, "count where a=7", "count\n0\n");
+        due(run, "sum(a) where a=7", "sum\n\n");
+        due(run, "least(b) where a=7", "least\n\n");
+        due(Run.of("a,b"), "rows", "a,b\n");
+        due(Run.of("a,b"), "count by b", "b,count\n");
+    }
+
+    private static void dueNowhere(Run run, int... places) {
+        for (int i : places) {
+            Run.due("out " + i, Run.told(() -> run.x.out(i)), "IndexOutOfBoundsException");
         }
-        due(Run.of(text.toString()), "sum(a) by a", want.toString());
+    }
+
+    private static void outBeforeAWrite() {
+        Run.sentence("OUT is empty");
+        Run run = new Run();
+        dueNowhere(run, Integer.MIN_VALUE, -1, 0, 1, Integer.MAX_VALUE);
+        run.written(false);
+        run.load("a\n1");
+        run.ask("rows");
+        dueNowhere(run, Integer.MIN_VALUE, -1, 0, 1, Integer.MAX_VALUE);
+    }
+
+    private static void charactersOfOut() {
+        Run.sentence("Character i of OUT. IndexOutOfBoundsException when there is none");
+        Run run = Run.of("a,b\n1,\"~\n\r\"\n");
+        String want = "a,b\n1,\"~\n\r\"\n";
+        run.x.write(false);
+        for (int i = 0; i < want.length(); i++) {
+            int place = i;
+            Run.due("out " + i, Run.told(() -> run.x.out(place)), Integer.toString(want.charAt(i)));
+        }
+        int length = want.length();
+        Run.due("the last character", run.x.out(length - 1), 10);
+        dueNowhere(run, Integer.MIN_VALUE, -length, -1, length, length + 1, 240, 767, 768, Integer.MAX_VALUE);
+    }
+
+    private static void outStaysUntilTheNextWrite() {
+        Run.sentence("TO WRITE a table or answer is to put into OUT");
+        Run run = Run.of("a\n1\n2\n");
+        run.x.write(false);
+        run.ask("count");
+        run.load("b");
+        Run.due("OUT after ask and load", run.out(6), "a\n1\n2\n");
+        run.written(true);
+        Run.due("OUT after a write that throws", run.out(6), "a\n1\n2\n");
+        run.x.write(false);
+        Run.due("OUT of a shorter one", run.out(2), "b\n");
+        dueNowhere(run, 2, 3, 4, 5, 6);
     }
 
     private static void whatIsNotThere() {
