@@ -21,6 +21,7 @@ public final class AskTest {
         whatAnAskLeaves();
         noTable();
         howManyRowsOrLines();
+        noQuestion();
         sumsAtTheEnds();
         sumsOnTheWay();
         noAnswerAnyMore();
@@ -252,6 +253,20 @@ public final class AskTest {
             Run.due("rows of " + rows, run.ask("rows") + " " + run.x.lines(), rows + " " + rows);
             Run.due("lines of " + rows, run.ask("count by a") + " " + run.x.lines(), rows + " " + rows);
             Run.due("one line of " + rows, run.ask("count") + " " + run.x.lines(), "1 1");
+        }
+    }
+
+    private static void noQuestion() {
+        Run.sentence("IllegalArgumentException when it is no question (a name that is none, things that can't be"
+                + " compared, too): FAULT is told then");
+        String[][] questions = {{"", "0"}, {"row", "0"}, {"rows where", "10"}, {"rows where n=1 2", "15"},
+            {"rows where q=1", "11"}, {"rows order q", "11"}, {"count by q", "9"}, {"most(q)", "5"},
+            {"rows where n=q", "13"}, {"rows where n='x'", "13"}, {"rows where n=d", "13"}, {"rows where t=1", "13"},
+            {"rows where d=1", "13"}, {"rows where m=t", "13"}, {"sum(t)", "4"}, {"sum(d)", "4"}};
+        for (String[] question : questions) {
+            Run run = Run.of(TABLE);
+            Run.due("ask of [" + question[0] + "]", run.ask(question[0]), "IllegalArgumentException");
+            Run.due("fault of [" + question[0] + "]", Integer.toString(run.x.fault()), question[1]);
         }
     }
 

@@ -16,6 +16,10 @@ public final class CellsTest {
         whichExceptionIsFirst();
         withoutATable();
         cornersOfTables();
+        typesOfColumns();
+        whetherCellsAreMissing();
+        valuesOfTexts();
+        valuesOfMissingCells();
         Run.finish();
     }
 
@@ -125,6 +129,52 @@ public final class CellsTest {
         }
         Run.due("values", told, "0 9223372036854775807 20200229 -2147483648 -9223372036854775808 10101 "
                 + "2147483647 -1 99991231 ");
+    }
+
+    private static void typesOfColumns() {
+        Run.sentence("The type of a column (0 the first)");
+        Run run = Run.of("a,b,c,d,e,f\nx,2020-02-29,2147483648,1,,\"1\"\n");
+        String types = "";
+        for (int column = 0; column < 6; column++) {
+            types += run.type(column);
+        }
+        Run.due("types", types, "321003");
+        Run.due("one before and one behind", run.type(-1) + run.type(6), NO_CELL + NO_CELL);
+        Run.due("the only one", Run.of("a\nx").type(0), "3");
+        Run.due("one behind the only one", Run.of("a\nx").type(1), NO_CELL);
+    }
+
+    private static void whetherCellsAreMissing() {
+        Run.sentence("Whether a cell is missing");
+        Run run = Run.of("a,b,c,d\n,1,2020-02-29,x\n1,,,\n2,3,,\"\"\n");
+        String told = "";
+        for (int row = 0; row < 3; row++) {
+            for (int column = 0; column < 4; column++) {
+                told += run.missing(row, column);
+            }
+        }
+        Run.due("of each type", told, "100001110010");
+    }
+
+    private static void valuesOfTexts() {
+        Run.sentence("IllegalStateException when the column's type is 3");
+        Run run = Run.of("a,b\n1,\"1\"\nx,2\n,\n2020-02-29,\"\"\n");
+        for (int row = 0; row < 4; row++) {
+            Run.due("value of row " + row, run.value(row, 0) + run.value(row, 1), OF_TEXT + OF_TEXT);
+        }
+        Run.due("value of the row behind", run.value(4, 0) + run.value(4, 1), NO_CELL + NO_CELL);
+        Run.due("value of the column behind", run.value(0, 2), NO_CELL);
+    }
+
+    private static void valuesOfMissingCells() {
+        Run.sentence("NoSuchElementException when it is missing");
+        Run run = Run.of("a,b,c,d\n,,,\n1,2147483648,2020-02-29,\n");
+        for (int column = 0; column < 4; column++) {
+            Run.due("value of column " + column, run.value(0, column), MISSING);
+        }
+        Run.due("value of a column that is missing throughout", run.value(1, 3), MISSING);
+        Run.sentence("The value of a cell");
+        Run.due("values", run.value(1, 0) + " " + run.value(1, 1) + " " + run.value(1, 2), "1 2147483648 20200229");
     }
 
     private static void withoutATable() {
