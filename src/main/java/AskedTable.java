@@ -1120,7 +1120,7 @@ public final class AskedTable {
 
     /** OUT, and how a table or an answer is put into it. */
     private static final class Output {
-        // The longest are sums by a column: 16 lines of 20 digits beside all that the text has.
+        // The longest is least of a column of texts by itself, 546: each of 16 cells twice, 15 of them marked anew.
         private static final int LIMIT = 768;
 
         final char[] chars;

@@ -9,6 +9,7 @@ public final class PutCutTest {
         cutKeepsTheFirst();
         textAndQuestionAreTwo();
         charactersStayWhateverReadsThem();
+        charactersStayWhenReadersThrow();
         whatIsCutIsNotReadAnyMore();
         Run.finish();
     }
@@ -146,5 +147,52 @@ public final class PutCutTest {
         Run.due("a question that is none", Run.told(run.x::ask), "IllegalArgumentException");
         run.x.cut(true, 5);
         Run.due("ask of what is left", Run.told(run.x::ask), "2");
+    }
+
+    /** Texts and questions that are good, and such that load() or ask() throws each exception that it names. */
+    private static void charactersStayWhenReadersThrow() {
+        Run.sentence("(they stay, whatever reads them; cut() alone makes them shorter)");
+        String sumBeyond = "a\n9223372036854775807\n1\n";
+        String[] texts = {"", "a\n1\n", "a\n\"", "a\n1,2\n", "by\n1\n", "a" + "\n1".repeat(17), sumBeyond,
+            "a\n\"x\"\"y\"\r\n" + "z".repeat(229)};
+        String[] questions = {"", "rows", "rows where", "rows ?", "sum(a)", "count by a" + " ".repeat(86)};
+        for (String first : new String[] {"", "a\n5", sumBeyond}) {
+            for (String text : texts) {
+                for (String question : questions) {
+                    dueStaying(first, text, question);
+                }
+            }
+        }
+    }
+
+    /** All that reads is called thrice; then text and question are what they are in an object where nothing was. */
+    private static void dueStaying(String first, String text, String question) {
+        Run run = new Run();
+        run.load(first);
+        run.put(false, text);
+        run.put(true, question);
+        for (int turn = 0; turn < 3; turn++) {
+            Run.told(() -> run.x.write(true));
+            Run.told(() -> run.x.write(false));
+            Run.told(run.x::ask);
+            Run.told(run.x::load);
+            dueLength(run, false, text.length());
+            dueLength(run, true, question.length());
+        }
+        Run fresh = new Run();
+        fresh.load(first);
+        fresh.put(false, text);
+        fresh.put(true, question);
+        Run.due("the inputs [" + text + "] and [" + question + "]", read(run), read(fresh));
+    }
+
+    private static void dueLength(Run run, boolean question, int length) {
+        Run.due("cut to one more than " + length, run.x.cut(question, length + 1), false);
+        Run.due("cut to " + length, run.x.cut(question, length), true);
+    }
+
+    private static String read(Run run) {
+        String loaded = Run.told(run.x::load) + " " + run.written(false);
+        return loaded + " " + Run.told(run.x::ask) + " " + run.x.fault() + " " + Run.told(() -> run.x.write(true));
     }
 }

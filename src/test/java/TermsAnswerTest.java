@@ -2,6 +2,14 @@
 public final class TermsAnswerTest {
     private static final String MISSING = "NoSuchElementException";
 
+    /** 240 characters, and of them as many cells as can be that come out with two marks more. */
+    private static final String LONGEST_TABLE = "a,b,c,d,e,f\nx,x,x,x,x,x\n" + "1,1,1,1,1,1\n".repeat(14)
+            + "1,1,1,10,1000000000000000000,1000000000000000000";
+    private static final String MARKED_ROWS = "\"1\",\"1\",\"1\",\"1\",\"1\",\"1\"\n".repeat(14)
+            + "\"1\",\"1\",\"1\",\"10\",\"1000000000000000000\",\"1000000000000000000\"\n";
+    private static final String LONGEST_WRITTEN = "a,b,c,d,e,f\nx,x,x,x,x,x\n" + MARKED_ROWS;
+    private static final String LONGEST_TURNED = "a,b,c,d,e,f\n" + MARKED_ROWS + "x,x,x,x,x,x\n";
+
     public static void main(String[] args) {
         rowsInTheirOrder();
         leastFirst();
@@ -24,7 +32,8 @@ public final class TermsAnswerTest {
         textsThatNeedMarks();
         numbersAndDatesAsTexts();
         roomForTables();
-        roomForAnswers();
+        roomForRows();
+        roomForLines();
         Run.finish();
     }
 
@@ -283,9 +292,18 @@ public final class TermsAnswerTest {
                 "a,b,c,d,e,f\n" + "x,x,x,x,x,x\n" + marked.repeat(15));
         dueTable("a\n\"" + "\"\"".repeat(118) + "\"", "a\n\"" + "\"\"".repeat(118) + "\"\n");
         dueTable("a\n" + "x".repeat(238), "a\n" + "x".repeat(238) + "\n");
+        dueTable(LONGEST_TABLE, LONGEST_WRITTEN);
+        Run.due("characters of the longest", LONGEST_TABLE.length() + " " + LONGEST_WRITTEN.length(), "240 421");
     }
 
-    private static void roomForAnswers() {
+    private static void roomForRows() {
+        Run.sentence("OUT has room for whatever that is");
+        dueWritten(LONGEST_TABLE, "rows", LONGEST_WRITTEN);
+        dueWritten(LONGEST_TABLE, "rows where a<>'y' order a", LONGEST_TURNED);
+        dueWritten("a\n" + "x".repeat(238), "rows order a", "a\n" + "x".repeat(238) + "\n");
+    }
+
+    private static void roomForLines() {
         Run.sentence("OUT has room for whatever that is");
         String marks = "\"" + "\"\"".repeat(118) + "\"";
         dueEnd("a\n" + marks, "most(a) by a", "a,most\n" + marks + "," + marks + "\n");
@@ -293,12 +311,15 @@ public final class TermsAnswerTest {
         dueEnd("a\n" + letters, "least(a) by a", "a,least\n" + letters + "," + letters + "\n");
         // 240 characters, and of them as many lines as can be, each cell twice, and all but one with marks more.
         StringBuilder text = new StringBuilder("a");
-        StringBuilder want = new StringBuilder("a,most\n");
+        StringBuilder want = new StringBuilder("a,least\n");
         for (long number = 10000000000001L; number <= 10000000000015L; number++) {
             text.append('\n').append(number);
             want.append('"').append(number).append("\",\"").append(number).append("\"\n");
         }
-        dueEnd(text + "\nxxxxxxxxxxxxx", "most(a) by a", want + "xxxxxxxxxxxxx,xxxxxxxxxxxxx\n");
+        text.append("\nxxxxxxxxxxxxx");
+        want.append("xxxxxxxxxxxxx,xxxxxxxxxxxxx\n");
+        Run.due("characters of the longest", text.length() + " " + want.length(), "240 546");
+        dueEnd(text.toString(), "least(a) by a", want.toString());
         StringBuilder numbers = new StringBuilder("a");
         StringBuilder sums = new StringBuilder("a,sum\n");
         for (long number = -9999999999999L; number <= -9999999999985L; number++) {
